@@ -17,7 +17,7 @@ public final class WaterMen {
     private static final int MOST_TRIPS = 600, MOST_PAID = 1000000, BOX_PART = 20;
 
     private static final int MOST_BYTES = 400, MOST_DIGITS = 5;
-    private static final int MOST_ORDERS = 20, MOST_ROWS = 12, ROW = 3;
+    private static final int MOST_ORDERS = 20, MOST_SAME_LINES = 12, NUMBERS_A_LINE = 3;
     private static final int NO_FAULT = -1, FAULT = -100, NO_LINE = -1, NO_FARE = -1, MOST_FARE = 1000000;
 
     private static final int MOST_PENSIONERS = 30, MOST_PENSION = 10000, LAST_END = 9999;
@@ -830,9 +830,9 @@ public final class WaterMen {
     private static final class Order {
         int madeOn;
         int inForceFrom;
-        /** Rows of a, b, n. */
-        final int[] fares = new int[MOST_ROWS * ROW];
-        final int[] hours = new int[MOST_ROWS * ROW];
+        /** Each line's a, b and n. */
+        final int[] fares = new int[MOST_SAME_LINES * NUMBERS_A_LINE];
+        final int[] hours = new int[MOST_SAME_LINES * NUMBERS_A_LINE];
         /** By kind of line: the number of a line that may stand once. */
         final int[] single = new int[Tape.KINDS];
         int fareCount;
@@ -840,12 +840,7 @@ public final class WaterMen {
         int bridgeOpens;
         int bridgeShuts;
 
-        Order() {
-            for (int i = 0; i < Tape.KINDS; i++) {
-                single[i] = NO_LINE;
-            }
-        }
-
+        /** A text is read into what may hold the lines of one with a fault. */
         void clear() {
             for (int i = 0; i < Tape.KINDS; i++) {
                 single[i] = NO_LINE;
@@ -856,20 +851,20 @@ public final class WaterMen {
 
         boolean takesLine(int kind) {
             if (kind == Tape.FARE_LINE) {
-                return fareCount < MOST_ROWS;
+                return fareCount < MOST_SAME_LINES;
             }
             if (kind == Tape.HOUR_LINE) {
-                return hourCount < MOST_ROWS;
+                return hourCount < MOST_SAME_LINES;
             }
             return single[kind] == NO_LINE;
         }
 
         void addLine(int kind, int a, int b, int n) {
             if (kind == Tape.FARE_LINE) {
-                setRow(fares, fareCount, a, b, n);
+                setLine(fares, fareCount, a, b, n);
                 fareCount++;
             } else if (kind == Tape.HOUR_LINE) {
-                setRow(hours, hourCount, a, b, n);
+                setLine(hours, hourCount, a, b, n);
                 hourCount++;
             } else {
                 single[kind] = a;
@@ -880,14 +875,14 @@ public final class WaterMen {
             }
         }
 
-        static void setRow(int[] rows, int row, int a, int b, int n) {
-            rows[row * ROW] = a;
-            rows[row * ROW + 1] = b;
-            rows[row * ROW + 2] = n;
+        static void setLine(int[] lines, int i, int a, int b, int n) {
+            lines[i * NUMBERS_A_LINE] = a;
+            lines[i * NUMBERS_A_LINE + 1] = b;
+            lines[i * NUMBERS_A_LINE + 2] = n;
         }
 
-        static boolean rowHolds(int[] rows, int row, int v) {
-            return rows[row * ROW] <= v && v <= rows[row * ROW + 1];
+        static boolean lineHolds(int[] lines, int i, int v) {
+            return lines[i * NUMBERS_A_LINE] <= v && v <= lines[i * NUMBERS_A_LINE + 1];
         }
 
         int price(int miles, int drift, int day, int hour, int oars) {
@@ -901,8 +896,8 @@ public final class WaterMen {
                 price = scaled(price, single[Tape.AGAINST_LINE]);
             }
             for (int i = 0; i < hourCount; i++) {
-                if (rowHolds(hours, i, hour)) {
-                    price = scaled(price, hours[i * ROW + 2]);
+                if (lineHolds(hours, i, hour)) {
+                    price = scaled(price, hours[i * NUMBERS_A_LINE + 2]);
                 }
             }
             if (isSunday(day)) {
@@ -916,8 +911,8 @@ public final class WaterMen {
 
         int basePrice(int miles) {
             for (int i = 0; i < fareCount; i++) {
-                if (rowHolds(fares, i, miles)) {
-                    return fares[i * ROW + 2];
+                if (lineHolds(fares, i, miles)) {
+                    return fares[i * NUMBERS_A_LINE + 2];
                 }
             }
             return NO_FARE;

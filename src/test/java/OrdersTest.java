@@ -7,6 +7,7 @@ public final class OrdersTest {
         bytes();
         goodTexts();
         faults();
+        nearlyWords();
         secondLines();
         tooManyRows();
         orders();
@@ -135,6 +136,24 @@ public final class OrdersTest {
         fault("fare 1 to 2 is 3; " + (char) 233, 18);
         fault("fare 1 to 2 is 3" + (char) 160 + ";", 16);
         fault("fare 1 to 2 is 3" + (char) 0 + ";", 16);
+    }
+
+    /** Every letter of every word counts, and a word is judged whole. */
+    private static void nearlyWords() {
+        for (String word : "fare hour with against sunday least bridge head oars".split(" ")) {
+            for (int i = 0; i < word.length(); i++) {
+                char other = word.charAt(i) == 'z' ? 'a' : 'z';
+                fault(" " + word.substring(0, i) + other + word.substring(i + 1) + " 1", 1);
+            }
+            fault(word + "z 1", 0);
+            fault(word + "a 1", 0);
+            fault(word + "{1", word.length());
+            fault(word + "`1", word.length());
+            fault(word + "/1", word.length());
+            fault(word + ":1", word.length());
+        }
+        for (String word : new String[] {"bo", "tp", "t", "toz", "is"}) fault("bridge 1 " + word + " 2;", 9);
+        for (String word : new String[] {"as", "it", "i", "isa", "to"}) fault("hour 1 to 2 " + word + " 3;", 12);
     }
 
     private static void secondLines() {

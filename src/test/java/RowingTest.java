@@ -10,6 +10,7 @@ public final class RowingTest {
         times();
         turns();
         trips();
+        manyTrips();
         money();
         sundays();
         twoSundaysAndFewCoins();
@@ -234,6 +235,23 @@ public final class RowingTest {
             check.is("P27 what edge", x.trip(0, e), -2);
         }
         check.is("P33 trips", x.count(2), 3);
+    }
+
+    /** More calls than an object is promised for: it must end and throw nothing all the same. */
+    private static void manyTrips() {
+        WaterMen x = new WaterMen();
+        x.stairs(0);
+        x.stairs(1);
+        x.boat(2, 0);
+        x.free(0);
+        Check.order(x, "fare 0 to 60 is 1;", 0);
+        for (int i = 0; i < 600; i++) {
+            check.is("P24 many", x.row(0, 0, 1 - i % 2, 1000000), i);
+            x.minutes(10);
+        }
+        check.is("P24 full", x.row(0, 0, 1, 0), -3);
+        check.is("P34 all paid", x.coins(3), 600000000);
+        check.is("P29 all above", x.over(0, 499), 600000000 - 600);
     }
 
     private static void money() {
