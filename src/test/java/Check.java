@@ -88,10 +88,52 @@ final class Check {
         return s.append(x.foretold()).toString();
     }
 
+    /** All that can be asked, and all that shows only in what comes later: the river is used up by it. */
+    static String allOf(WaterMen x) {
+        StringBuilder s = new StringBuilder(stateOf(x));
+        faresOf(x, s);
+        int today = x.count(4) / 720;
+        for (int d = today; d < 500; d++) s.append(x.frost(d, 0)).append(' ');
+        s.append(x.order(0)).append(' ');
+        faresOf(x, s);
+        x.end(0);
+        s.append(order(x, "fare 0 to 60 is 1; bridge 12 to 12;", 0)).append(' ');
+        s.append(stateOf(x));
+        for (int i = 0; i < 12; i++) s.append(x.table(i, 0)).append(' ');
+        for (int d = 0; d < 500; d++) {
+            for (int h = 0; h < 12; h++) s.append(x.flow(d, h)).append(' ');
+        }
+        for (int m = 0; m < 40; m++) {
+            if (x.man(m, 0) != 1) continue;
+            for (int d = 0; d <= today; d++) s.append(x.absent(m, d, d)).append(' ');
+        }
+        for (int d = today + 1; d < 500; d++) {
+            goToDay(x, d);
+            s.append(x.foretold()).append(' ').append(x.coins(0)).append(' ');
+            if (d == today + 1) s.append(stateOf(x));
+        }
+        return s.append(stateOf(x)).toString();
+    }
+
+    private static void faresOf(WaterMen x, StringBuilder s) {
+        int last = x.count(0) - 1;
+        for (int o = 0; o < x.count(3); o++) {
+            for (int hours = 0; hours < 24; hours++) {
+                s.append(x.fare(o, 0, 1, hours, 1)).append(' ').append(x.fare(o, last, 0, hours, 2)).append(' ');
+            }
+        }
+    }
+
     private static final int[] EDGES = {Integer.MIN_VALUE, Integer.MIN_VALUE + 1, -1000, -2, -1, Integer.MAX_VALUE - 1, Integer.MAX_VALUE};
+    private static final int[] FAR = {Integer.MIN_VALUE, Integer.MIN_VALUE + 1, -(1 << 20), 1 << 20, Integer.MAX_VALUE - 1, Integer.MAX_VALUE};
 
     /** Numbers that are wrong nearly everywhere. */
     static int[] edges() {
         return EDGES.clone();
+    }
+
+    /** Numbers that are wrong everywhere but in feed(). */
+    static int[] far() {
+        return FAR.clone();
     }
 }
