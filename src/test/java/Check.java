@@ -2,6 +2,7 @@ import java.nio.charset.StandardCharsets;
 
 /** What the tests share: counting wrong answers, feeding texts, letting time go by. */
 final class Check {
+    private static final int MOST_TOLD = 40;
     private int asked;
     private int wrong;
 
@@ -9,7 +10,7 @@ final class Check {
         asked++;
         if (got != want) {
             wrong++;
-            System.out.println(what + " answered " + got + ", due is " + want);
+            if (wrong <= MOST_TOLD) System.out.println(what + " answered " + got + ", due is " + want);
         }
     }
 
@@ -51,7 +52,8 @@ final class Check {
 
     static void goTo(WaterMen x, int time) {
         while (x.count(4) < time) {
-            x.minutes(Math.min(1440, time - x.count(4)));
+            // A river whose time stands still must not hold the test for ever.
+            if (x.minutes(Math.min(1440, time - x.count(4))) <= 0) return;
         }
     }
 
@@ -68,6 +70,10 @@ final class Check {
             for (int i = 0; i < 7; i++) s.append(x.man(m, i)).append(' ');
             s.append(x.served(m)).append(' ').append(x.over(m, 499)).append(' ');
         }
+        for (int d = 0; d < 500; d++) {
+            for (int h = 0; h < 12; h++) s.append(x.flow(d, h)).append(' ');
+            s.append(x.inForce(d, 0)).append(' ').append(x.inForce(d, d)).append(' ').append(x.inForce(d, 499)).append(' ');
+        }
         for (int b = 0; b < x.count(1); b++) {
             for (int i = 0; i < 5; i++) s.append(x.craft(b, i)).append(' ');
             for (int m = 0; m < 40; m++) {
@@ -77,10 +83,6 @@ final class Check {
         for (int t = 0; t < x.count(2); t++) {
             for (int i = 0; i < 8; i++) s.append(x.trip(t, i)).append(' ');
             for (int k = 0; k < 500; k += 7) s.append(x.due(t, k)).append(' ');
-        }
-        for (int d = 0; d < 500; d++) {
-            for (int h = 0; h < 12; h++) s.append(x.flow(d, h)).append(' ');
-            s.append(x.inForce(d, d)).append(' ').append(x.inForce(d, 499)).append(' ');
         }
         for (int p = 0; p < x.count(8); p++) {
             for (int i = 0; i < 3; i++) s.append(x.pensioner(p, i)).append(' ');

@@ -252,10 +252,11 @@ public final class OrdersEdgesTest {
         for (int i = 0; i < 12; i++) fares.append("fare ").append(i).append(" to ").append(i).append(" is ").append(100 + i).append(';');
         s.order(fares.toString(), 0, 0);
         for (int i = 1; i < 12; i++) s.is("fare(0, 0, " + i + ", 0, 1) = " + (100 + i));
+        s.is("stairs(30) = -3; fare(0, 0, 1, 0, 1) = 101").order("fare 50 to 60 is 1;".repeat(12), 0, 1).is("fare(1, 0, 1, 0, 1) = -2; fare(1, 0, 11, 0, 2) = -2");
         StringBuilder hours = new StringBuilder("fare 0 to 60 is 100;");
         for (int i = 0; i < 12; i++) hours.append("hour ").append(i).append(" to ").append(i).append(" is ").append(200 + i).append(';');
-        s.order(hours.toString(), 0, 1);
-        for (int i = 0; i < 12; i++) s.is("fare(1, 0, 1, " + i + ", 1) = " + (200 + i));
+        s.order(hours.toString(), 0, 2);
+        for (int i = 0; i < 12; i++) s.is("fare(2, 0, 1, " + i + ", 1) = " + (200 + i));
     }
 
     private static void orderCalls() {
@@ -265,6 +266,8 @@ public final class OrdersEdgesTest {
             .is("inForce(0, 7) = 2").order("with 1;", 7, 3).is("inForce(7, 7) = 3; inForce(6, 7) = 2").order("with 1;", 8, 4).is("inForce(8, 7) = 4; inForce(7, 7) = 3");
         of(sentence).text("with 1; ?").is("order(0) = -108; count(9) = 0; count(3) = 0; order(0) = -100").order("with 1;", 0, 0);
         of(sentence).text("with 1; ?").is("order(500) = -1; count(9) = 9; order(-1) = -1; end(8) = 8; order(0) = 0");
+        of(sentence).text("fare 0 to 60 is 5; fare 0 to 60 is 6; hour 0 to 9 is 7; hour 0 to 9 is 8; ?").is("order(0) = -174").text("fare 2 to 2 is 1; hour 1 to 1 is 9;")
+            .is("order(0) = 0; stairs(0); stairs(1); stairs(3); fare(0, 0, 1, 0, 1) = -2; fare(0, 1, 2, 0, 1) = 1; fare(0, 1, 2, 2, 1) = 1");
         of(sentence).text("with 9; with 9;").is("order(0) = -108").text("fare 0 to 60 is 100;").is("order(0) = 0; stairs(0); stairs(1); table(1, 5); fare(0, 0, 1, 0, 1) = 100");
     }
 

@@ -65,6 +65,18 @@ final class Story {
         return this;
     }
 
+    /** Calls that all leave the river as it is, questions as well as refused ones. */
+    Story still(String run) {
+        for (String part : run.split(";")) {
+            String[] sides = part.split("=");
+            Call call = parse(sides[0].strip());
+            int due = Integer.parseInt(sides[1].strip());
+            check.is("'" + sentence + "': " + call, call.on(x), due);
+            mustBeAsBefore(call, due);
+        }
+        return this;
+    }
+
     /** The same call again and again, # being each of these, all with one answer. */
     Story each(String call, int due, int... values) {
         for (int v : values) is(call.replace("#", Integer.toString(v)) + " = " + due);
@@ -96,7 +108,11 @@ final class Story {
     }
 
     Story time(int time) {
-        while (x.count(4) < time) make(new Call("minutes", new int[] {Math.min(1440, time - x.count(4))}));
+        while (x.count(4) < time) {
+            if (make(new Call("minutes", new int[] {Math.min(1440, time - x.count(4))})) > 0) continue;
+            check.holds("'" + sentence + "': time goes on to " + time, false);
+            return this;
+        }
         return this;
     }
 
