@@ -112,6 +112,7 @@ public final class MenEdgesTest {
         for (int m : new int[] {0, 1, 3, 4, 5, 39}) {
             s.is("absent(" + m + ", 0, 5) = -2; absent(" + m + ", 5, 5) = -2; absent(" + m + ", 0, 6) = -1; absent(" + m + ", -1, 5) = -1; absent(" + m + ", 4, 3) = -1");
         }
+        of(sentence).is("free(0)").day(10).is("bind(1, 0) = 1").day(310).is("pass(1) = 1; absent(1, 10, 310) = -2; absent(1, 9, 310) = -1; absent(1, 10, 311) = -1");
         s.is("absent(40, 0, 0) = -1; absent(-1, 0, 0) = -1; absent(2, 0, 5) = 1; absent(2, 5, 6) = -1; absent(2, 3, 2) = -1; absent(2, 3, 3) = -2");
     }
 
