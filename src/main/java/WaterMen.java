@@ -88,7 +88,7 @@ public final class WaterMen {
         if (!isDay(day) || day < today() || is < 0 || is > 1) {
             return BAD;
         }
-        int was = river.frozen[day] ? 1 : 0;
+        int was = river.isFrozen(day) ? 1 : 0;
         river.frozen[day] = is == 1;
         return was;
     }
@@ -387,8 +387,8 @@ public final class WaterMen {
         }
         int sum = 0;
         for (int i = 0; i < tripCount; i++) {
-            Trip it = trips[i];
-            if (it.man == man) {
+            Trip it = tripAt(i);
+            if (it != null && it.man == man) {
                 sum += overpaid(it, k);
             }
         }
@@ -504,7 +504,8 @@ public final class WaterMen {
         }
         int ahead = 0;
         for (int i = 0; i < MEN; i++) {
-            if (men[i].turnStairs == who.turnStairs && men[i].turnTicket < who.turnTicket) {
+            Man other = men[i];
+            if (other != null && other.turnStairs == who.turnStairs && other.turnTicket < who.turnTicket) {
                 ahead++;
             }
         }
@@ -513,7 +514,8 @@ public final class WaterMen {
 
     private boolean hasTurns(int stairs) {
         for (int i = 0; i < MEN; i++) {
-            if (men[i].turnStairs == stairs) {
+            Man one = men[i];
+            if (one != null && one.turnStairs == stairs) {
                 return true;
             }
         }
@@ -530,7 +532,8 @@ public final class WaterMen {
     private int menThatAre(int state) {
         int sum = 0;
         for (int i = 0; i < MEN; i++) {
-            if (men[i].state == state) {
+            Man one = men[i];
+            if (one != null && one.state == state) {
                 sum++;
             }
         }
@@ -540,7 +543,8 @@ public final class WaterMen {
     private int coinsOfMen() {
         int sum = 0;
         for (int i = 0; i < MEN; i++) {
-            sum += men[i].coins;
+            Man one = men[i];
+            sum += one == null ? 0 : one.coins;
         }
         return sum;
     }
@@ -549,7 +553,8 @@ public final class WaterMen {
 
     private int numberInForce(int day, int known) {
         for (int i = orderCount - 1; i >= 0; i--) {
-            if (orders[i].madeOn <= known && orders[i].inForceFrom <= day) {
+            Order one = orderAt(i);
+            if (one != null && one.madeOn <= known && one.inForceFrom <= day) {
                 return i;
             }
         }
@@ -586,7 +591,7 @@ public final class WaterMen {
     /** WHY's number, 0 if nothing hinders. */
     private int hindrance(Boat boat, Man who, int to) {
         int day = today();
-        if (river.frozen[day]) {
+        if (river.isFrozen(day)) {
             return 1;
         }
         if (boat.stateAt(now) == ON_A_WAY) {
@@ -637,7 +642,8 @@ public final class WaterMen {
         }
         int sharers = 0;
         for (int i = 0; i < MEN; i++) {
-            if (men[i].lastSunday == day) {
+            Man one = men[i];
+            if (one != null && one.lastSunday == day) {
                 sharers++;
             }
         }
@@ -646,8 +652,9 @@ public final class WaterMen {
         }
         int share = box.pot / sharers;
         for (int i = 0; i < MEN; i++) {
-            if (men[i].lastSunday == day) {
-                men[i].coins += share;
+            Man one = men[i];
+            if (one != null && one.lastSunday == day) {
+                one.coins += share;
             }
         }
         box.receive(day, box.pot - share * sharers);
@@ -662,6 +669,10 @@ public final class WaterMen {
         final boolean[] frozen = new boolean[DAYS];
         int stairCount;
         int bridgeAbove = NOWHERE;
+
+        boolean isFrozen(int day) {
+            return isDay(day) && frozen[day];
+        }
 
         boolean hasStairs(int stairs) {
             return stairs >= 0 && stairs < stairCount;
@@ -1146,7 +1157,9 @@ public final class WaterMen {
 
         void receive(int day, int amount) {
             coins += amount;
-            income[day] += amount;
+            if (isDay(day)) {
+                income[day] += amount;
+            }
         }
 
         Pensioner pensionerAt(int i) {
@@ -1164,8 +1177,8 @@ public final class WaterMen {
                 return;
             }
             for (int i = 0; i < pensionerCount; i++) {
-                Pensioner one = pensioners[i];
-                if (day < one.end && one.pension <= coins) {
+                Pensioner one = pensionerAt(i);
+                if (one != null && day < one.end && one.pension <= coins) {
                     coins -= one.pension;
                     one.got += one.pension;
                     allPensions += one.pension;
@@ -1193,8 +1206,9 @@ public final class WaterMen {
         int owedOn(int day) {
             int sum = 0;
             for (int i = 0; i < pensionerCount; i++) {
-                if (day < pensioners[i].end) {
-                    sum += pensioners[i].pension;
+                Pensioner one = pensionerAt(i);
+                if (one != null && day < one.end) {
+                    sum += one.pension;
                 }
             }
             return sum;

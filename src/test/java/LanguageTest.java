@@ -1,3 +1,4 @@
+import com.sun.source.tree.ArrayAccessTree;
 import com.sun.source.tree.AssertTree;
 import com.sun.source.tree.BinaryTree;
 import com.sun.source.tree.ClassTree;
@@ -7,11 +8,13 @@ import com.sun.source.tree.DoWhileLoopTree;
 import com.sun.source.tree.EnhancedForLoopTree;
 import com.sun.source.tree.ExpressionTree;
 import com.sun.source.tree.ForLoopTree;
+import com.sun.source.tree.IdentifierTree;
 import com.sun.source.tree.ImportTree;
 import com.sun.source.tree.InstanceOfTree;
 import com.sun.source.tree.LambdaExpressionTree;
 import com.sun.source.tree.LiteralTree;
 import com.sun.source.tree.MemberReferenceTree;
+import com.sun.source.tree.MemberSelectTree;
 import com.sun.source.tree.MethodInvocationTree;
 import com.sun.source.tree.MethodTree;
 import com.sun.source.tree.NewClassTree;
@@ -151,7 +154,38 @@ public final class LanguageTest extends TreePathScanner<Void, Void> {
         if (element.getModifiers().contains(Modifier.STATIC)) {
             holds(5, "a constant", tree, element.getModifiers().contains(Modifier.FINAL) && element.getConstantValue() != null);
         }
+        boolean mayBeNull = element.getKind() == ElementKind.LOCAL_VARIABLE && !element.asType().getKind().isPrimitive()
+            && !(tree.getInitializer() instanceof NewClassTree);
+        if (mayBeNull) nullIsLookedAtFirst(element, tree);
         return super.visitVariable(tree, nothing);
+    }
+
+    /** What came out of an array, a field or a call is held against null ahead of its first use. */
+    private void nullIsLookedAtFirst(VariableElement what, VariableTree tree) {
+        long[] first = {Long.MAX_VALUE, Long.MAX_VALUE};
+        new TreePathScanner<Void, Void>() {
+            @Override
+            public Void visitIdentifier(IdentifierTree use, Void nothing) {
+                if (what.equals(trees.getElement(getCurrentPath()))) {
+                    Tree above = getCurrentPath().getParentPath().getLeaf();
+                    int sort = isNullTest(above) ? 0 : 1;
+                    first[sort] = Math.min(first[sort], places.getStartPosition(unit, use));
+                }
+                return null;
+            }
+        }.scan(getCurrentPath().getParentPath(), null);
+        holds(7, what + " is held against null before it is used", tree, first[0] < first[1]);
+    }
+
+    private static boolean isNullTest(Tree tree) {
+        return tree instanceof BinaryTree b && (b.getKind() == Tree.Kind.EQUAL_TO || b.getKind() == Tree.Kind.NOT_EQUAL_TO)
+            && b.getRightOperand().getKind() == Tree.Kind.NULL_LITERAL;
+    }
+
+    @Override
+    public Void visitMemberSelect(MemberSelectTree tree, Void nothing) {
+        holds(7, "nothing is used right out of an array: " + tree, tree, !(tree.getExpression() instanceof ArrayAccessTree));
+        return super.visitMemberSelect(tree, nothing);
     }
 
     @Override
